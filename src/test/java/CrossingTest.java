@@ -91,6 +91,10 @@ public final class CrossingTest {
         place("ab 4", 3);
         place("ab c", 3);
         place("ab \u00e1", 3);
+        place("ab i", 3);
+        place("ab `", 3);
+        place("ab ai 1", 4);
+        place("ab a` 1", 4);
         place("ab a", 4);
         place("ab aa 1", 4);
         place("ab ac 1", 4);

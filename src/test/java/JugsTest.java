@@ -14,6 +14,7 @@ public final class JugsTest {
         noRowLeavesNoSteps();
         findingChangesNoJug();
         goalsMayBeTakenBack();
+        fourGreatestJugs();
         rowsAreLeastAndShortest();
         CHECKS.end();
     }
@@ -133,6 +134,21 @@ public final class JugsTest {
         CHECKS.due("jugs() to what one jug can't have", x.jugs(), -1);
         x.goal(0, -1);
         CHECKS.due("jugs() as it likes", x.jugs(), 0);
+    }
+
+    private static void fourGreatestJugs() {
+        StatePuzzles x = new StatePuzzles();
+        for (int i = 0; i < 4; i++) {
+            CHECKS.due("jug(9, 9)", x.jug(9, 9), i);
+            CHECKS.due("goal(" + i + ", 0)", x.goal(i, 0), true);
+        }
+        CHECKS.due("jugs() to empty four full ones", x.jugs(), 4);
+        for (int k = 0; k < 4; k++) {
+            CHECKS.due("from of " + k, x.step(k, false), k);
+            CHECKS.due("to of " + k, x.step(k, true), -1);
+        }
+        x.goal(0, 8);
+        CHECKS.due("jugs() to what full and empty ones of 9 can't have", x.jugs(), -1);
     }
 
     private static void rowsAreLeastAndShortest() {
