@@ -77,37 +77,10 @@ public final class TowerTest {
         List<Integer> free = new ArrayList<>(List.of(0, 1, 2, 3));
         free.remove(Integer.valueOf(from));
         free.remove(Integer.valueOf(to));
-        int k = bestPart(n);
+        int k = TowerMoves.bestPart(n);
         byFour(moves, k, from, free.get(0));
         byThree(moves, k, n, from, to, free.get(1));
         byFour(moves, k, free.get(0), to);
-    }
-
-    private static int bestPart(int n) {
-        int best = 0;
-        for (int k = 0; k < n; k++) {
-            if (withPart(n, k) < withPart(n, best)) {
-                best = k;
-            }
-        }
-        return best;
-    }
-
-    private static long withPart(int n, int k) {
-        return 2 * fewest(k) + (1L << n - k) - 1;
-    }
-
-    /** The known numbers: 1, then twice 2, three times 4, four times 8 more for each disc and so on. */
-    private static long fewest(int n) {
-        long moves = 0;
-        int added = 0;
-        for (int group = 0; added < n; group++) {
-            for (int i = 0; i <= group && added < n; i++) {
-                moves += 1L << group;
-                added++;
-            }
-        }
-        return moves;
     }
 
     private static void longTowersOfThreePegs() {
