@@ -5,6 +5,7 @@ public final class JugEdgesTest {
     public static void main(String[] args) {
         atMostFourJugs();
         sizes();
+        asManyGreatestJugsAsMayBe();
         levels();
         filling();
         emptying();
@@ -39,6 +40,21 @@ public final class JugEdgesTest {
             .jug(0, 0, -1).jug(-1, -1, -1).jug(-1, 0, -1).jug(10, 0, -1).jug(10, 10, -1)
             .jug(Integer.MAX_VALUE, 0, -1).jug(Integer.MIN_VALUE, 0, -1).jug(256 + 5, 0, -1)
             .jug(1, 0, 0).jug(9, 0, 1).goal(0, 1, true).goal(1, 9, true).jugs(2);
+    }
+
+    /** All of them full is the greatest state that so many jugs can have. */
+    private static void asManyGreatestJugsAsMayBe() {
+        for (int count = 1; count <= 4; count++) {
+            Run full = run("each of a SIZE 1 to 9: " + count + " of 9 are full");
+            Run empty = run("each of a SIZE 1 to 9: " + count + " of 9 are empty");
+            for (int i = 0; i < count; i++) {
+                full.jug(9, 9, i).goal(i, 0, true);
+                empty.jug(9, 0, i).goal(i, 9, true);
+            }
+            full.jugs(count).step(0, 0, -1).step(count - 1, count - 1, -1).noStep(count);
+            empty.jugs(count).step(0, -1, 0).step(count - 1, -1, count - 1).noStep(count);
+            full.goal(0, 8, true).jugs(-1).noStep(0);
+        }
     }
 
     private static void levels() {
