@@ -262,8 +262,8 @@ public final class StatePuzzles {
     private static final class JugSet extends Puzzle {
         private static final int MOST_JUGS = 4;
         private static final int MOST_SIZE = 9;
+        private static final int LEVELS = MOST_SIZE + 1;
         private static final int[] DIGIT = {1, 10, 100, 1000};
-        private static final int[] STATES = {1, 10, 100, 1000, 10000};
         private static final int OUTSIDE = -1;
         private static final int ANY = -1;
 
@@ -293,7 +293,11 @@ public final class StatePuzzles {
         }
 
         int stateCount() {
-            return STATES[count];
+            int states = 1;
+            for (int i = 0; i < count; i++) {
+                states *= LEVELS;
+            }
+            return states;
         }
 
         int startState() {
@@ -342,14 +346,14 @@ public final class StatePuzzles {
         }
 
         private int roomIn(int number) {
-            return sizes[number] - levels[number];
+            return number < 0 || number >= count ? 0 : sizes[number] - levels[number];
         }
 
         private void readLevels(int state) {
             int rest = state;
             for (int i = 0; i < count; i++) {
-                levels[i] = rest % 10;
-                rest /= 10;
+                levels[i] = rest % LEVELS;
+                rest /= LEVELS;
             }
         }
     }
